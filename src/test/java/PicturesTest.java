@@ -17,7 +17,7 @@ public final class PicturesTest {
         Run.end("PicturesTest");
     }
 
-    /** A plain walnut of 10 long, flat at 10: widths 346, 346, 348, 348, 350 .., figures 25, 24 down to 18, and again. */
+    /** Plain walnut, 10 long, flat at 10: widths 346, 346, 348, 348, 350 .., figures 25, 24 down to 18, and again. */
     private static Run flat(String name) {
         Run run = new Run(name);
         run.due(0, "log", 'w', 400, 10, 'p');

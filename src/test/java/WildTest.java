@@ -1,8 +1,6 @@
 import java.lang.reflect.Method;
-import java.lang.reflect.Modifier;
-import java.util.ArrayList;
-import java.util.Comparator;
-import java.util.List;
+import java.util.Map;
+import java.util.TreeMap;
 
 /**
  * Long runs of right and wrong calls, the same ones every time: no call ends in an exception that the
@@ -13,46 +11,83 @@ public final class WildTest {
         Integer.MIN_VALUE, Integer.MIN_VALUE + 1, -1000000, -65536, -100, -9, -1, 65535, 1000000,
         Integer.MAX_VALUE - 1, Integer.MAX_VALUE,
     };
-    private static final String LETTERS = "wmohpcbfqrsabcdefghlx";
+
+    /** Each method with what its arguments are drawn from when they are right: a range or letters. */
+    private static final String[] CALLS = {
+        "log wmoh 100-999 5-40 pcb", "slice 0-7 fqrs 5-30", "leaves 0-7", "width 0-7 0-23", "area 0-7 0-23",
+        "figure 0-7 0-23", "isUsed 0-7 0-23", "panel 100-500 1-12 scb 5-40", "face 0-7 0-7 0-20 1-4 bsr",
+        "face 0-7 0-7 0-20 1-4 bsr", "back 0-7 0-7 0-18 1-8", "back 0-7 0-7 0-18 1-8", "jump 0-7",
+        "bestFirst 0-7 0-7 1-8 bsr", "press 0-7 0-60 1-99 0-60", "press 0-7 0-60 1-99 0-60", "slit 0-7",
+        "air 4-20", "cup 0-7 4-20", "isFlat 0-7", "cupMonth 0-7", "scrape 0-7 1-99", "isThrough 0-7",
+        "pad 0-7 1-9", "rest", "ghosts 0-7", "picture", "draw 0-3 0-7 0-7 1-4 abcdefgh",
+        "draw 0-3 0-7 0-7 1-4 abcdefgh", "fieldAt 0-3 0-7 0-7", "pieces 0-3", "islands 0-3",
+        "saw 0-3 0-7 0-18 2-8", "leafAt 0-3 0-5 0-7 0-7", "contrast 0-3 0-5", "sand 0-3 abcdefgh 100-300 1-60",
+        "burnt 0-3", "gap 1-99 5-30 0-15", "offcuts 50-300", "takeOffcut 50-400 1-8", "account fbporwl",
+        "price 0-7", "usedShare", "meanFigure", "checksum", "isTrue",
+    };
+
+    private static final String[] BEGINNING = {
+        "log wmoh 200-999 8-40 pcb", "panel 100-300 1-8 scb 5-40", "slice 0-7 fqrs 5-30", "picture",
+        "slice 0-3 fqrs 5-30",
+    };
+
+    private static final Map<String, Integer> answered = new TreeMap<>();
     private static long seed = 20261119;
 
-    public static void main(String[] args) {
-        List<Method> methods = new ArrayList<>();
-        for (Method method : VeneerLoft.class.getDeclaredMethods()) {
-            if (Modifier.isPublic(method.getModifiers())) {
-                methods.add(method);
-            }
-        }
-        methods.sort(Comparator.comparing(Method::getName));
+    public static void main(String[] args) throws NoSuchMethodException {
         for (int number = 0; number < 60; number++) {
-            wildRun(number, methods);
+            wildRun(number);
+        }
+        for (String call : CALLS) {
+            String method = call.split(" ")[0];
+            Run.check("hardly an answer of " + method, answered.getOrDefault(method, 0) >= 40);
         }
         Run.end("WildTest");
     }
 
-    private static void wildRun(int number, List<Method> methods) {
+    private static void wildRun(int number) throws NoSuchMethodException {
         Run run = new Run("wild run " + number);
-        if (number % 3 != 0) {
-            furnish(run);
-        }
-        int wildness = number % 2 == 0 ? 4 : 30;
-        for (int call = 0; call < 400; call++) {
-            Method method = methods.get(next(methods.size()));
-            String got = run.answer(method.getName(), arguments(method, wildness));
-            Run.check("wild run " + number + ": " + method.getName() + " answered " + got, isTold(method, got));
-            Run.check("wild run " + number + ": untrue after " + method.getName(), run.loft.isTrue());
+        int wildness = number % 2 == 0 ? 8 : 40;
+        for (int call = 0; call < 512; call++) {
+            String[] words = choose(call).split(" ");
+            wildCall(run, "wild run " + number + ", call " + call, words, wildness);
         }
     }
 
-    /** Logs, flitches, panels and pictures, so that more of the calls find what they name. */
-    private static void furnish(Run run) {
-        for (int i = 0; i < 6; i++) {
-            run.answer("log", "wmoh".charAt(i % 4), 200 + 150 * i, 20 - i, "pcb".charAt(i % 3));
-            run.answer("slice", i, "sfqr".charAt(i % 4), 5 + 4 * i);
-            run.answer("panel", 100 + 60 * i, 1 + i, "scb".charAt(i % 3), 5 + 7 * i);
+    /** The first calls buy and begin; sawing comes late, so that there is something drawn. */
+    private static String choose(int call) {
+        if (call < 40) {
+            return BEGINNING[call % BEGINNING.length];
         }
-        run.answer("picture");
-        run.answer("picture");
+        String chosen = CALLS[next(CALLS.length)];
+        return call < 200 && chosen.startsWith("saw") ? "rest" : chosen;
+    }
+
+    private static void wildCall(Run run, String name, String[] words, int wildness) throws NoSuchMethodException {
+        Object[] arguments = new Object[words.length - 1];
+        for (int i = 0; i < arguments.length; i++) {
+            arguments[i] = argument(words[i + 1], next(wildness) == 0);
+        }
+        String got = run.answer(words[0], arguments);
+        Run.check(name + ": " + words[0] + " answered " + got, isTold(Run.methodOf(words[0]), got));
+        Run.check(name + ": untrue after " + words[0], run.loft.isTrue());
+        if (!got.contains("throws")) {
+            answered.merge(words[0], 1, Integer::sum);
+        }
+    }
+
+    private static Object argument(String kind, boolean wild) {
+        if (!Character.isDigit(kind.charAt(0))) {
+            return wild ? (char) next(65536) : kind.charAt(next(kind.length()));
+        }
+        int dash = kind.indexOf('-');
+        int least = Integer.parseInt(kind.substring(0, dash));
+        int most = Integer.parseInt(kind.substring(dash + 1));
+        if (!wild) {
+            return least + next(most - least + 1);
+        }
+        int edge = next(EDGES.length + 4);
+        return edge < EDGES.length ? EDGES[edge] : edge % 2 == 0 ? least - 1 : most + 1;
     }
 
     private static boolean isTold(Method method, String got) {
@@ -65,26 +100,6 @@ public final class WildTest {
             }
         }
         return false;
-    }
-
-    private static Object[] arguments(Method method, int wildness) {
-        Class<?>[] types = method.getParameterTypes();
-        Object[] arguments = new Object[types.length];
-        for (int i = 0; i < types.length; i++) {
-            boolean wild = next(wildness) == 0;
-            if (types[i] == char.class) {
-                arguments[i] = wild ? (char) next(65536) : LETTERS.charAt(next(LETTERS.length()));
-            } else {
-                arguments[i] = wild ? EDGES[next(EDGES.length)] : number();
-            }
-        }
-        return arguments;
-    }
-
-    /** Mostly small ones, as most numbers of the document are. */
-    private static int number() {
-        int kind = next(10);
-        return kind < 5 ? next(4) : kind < 8 ? next(25) : kind < 9 ? next(300) : next(2100);
     }
 
     private static int next(int bound) {
