@@ -415,24 +415,28 @@ public final class VeneerLoft {
     }
 
     public int account(char kind) throws IllegalArgumentException {
-        switch ((int) kind) {
-            case 'f':
-                return faceArea;
-            case 'b':
-                return backArea;
-            case 'p':
-                return pictureArea;
-            case 'o':
-                return offcutArea();
-            case 'r':
-                return repairArea;
-            case 'w':
-                return wasteArea;
-            case 'l':
-                return unusedArea();
-            default:
-                throw new IllegalArgumentException();
+        if (kind == 'f') {
+            return faceArea;
         }
+        if (kind == 'b') {
+            return backArea;
+        }
+        if (kind == 'p') {
+            return pictureArea;
+        }
+        if (kind == 'o') {
+            return offcutArea();
+        }
+        if (kind == 'r') {
+            return repairArea;
+        }
+        if (kind == 'w') {
+            return wasteArea;
+        }
+        if (kind == 'l') {
+            return unusedArea();
+        }
+        throw new IllegalArgumentException();
     }
 
     public int price(int panel) throws IndexOutOfBoundsException {

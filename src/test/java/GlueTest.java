@@ -336,5 +336,7 @@ public final class GlueTest {
         run.due(12, "pad", 0, 3);
         run.due(1, "ghosts", 0);
         run.due(1, "rest");
+        run.due(8, "pad", 1, 1);
+        run.due(1, "rest");
     }
 }

@@ -278,5 +278,11 @@ public final class PanelsTest {
         run.due(0, "bestFirst", 1, 1, 8, 'b');
         run.due(Run.NONE, "bestFirst", 1, 1, 1, 'b');
         run.due(0, "bestFirst", 1, 1, 2, 'b');
+        // Only the last three leaves, 98 wide, hold strips of 98.
+        run.due(2, "panel", 294, 10, 's', 10);
+        run.due(96, "width", 1, 5);
+        run.due(98, "width", 1, 6);
+        run.due(6, "bestFirst", 2, 1, 3, 'b');
+        run.due(Run.NONE, "bestFirst", 2, 1, 2, 'b');
     }
 }

@@ -302,6 +302,8 @@ public final class PicturesTest {
         run.due(3, "burnt", 0);
         run.due(98, "sand", 0, 'd', 200, 49);
         run.due(4, "burnt", 0);
+        run.due(99, "sand", 0, 'a', 300, 60);
+        run.due(5, "burnt", 0);
         run.due(1, "picture");
         run.due(0, "burnt", 1);
     }

@@ -254,7 +254,7 @@ public final class ShopTest {
         waste.setInt(run.loft, waste.getInt(run.loft) + 2760);
         run.due(false, "isTrue");
         taken[9] = false;
-        taken[5] = false;
+        taken[0] = false;
         waste.setInt(run.loft, waste.getInt(run.loft) - 2 * 2760);
         run.due(false, "isTrue");
     }
