@@ -91,6 +91,7 @@ public final class PanelsTest {
         run.due(Run.INDEX, "face", 0, 0, -1, 2, 'b');
         run.due(Run.INDEX, "face", 0, 0, 24, 1, 'b');
         run.due(Run.INDEX, "face", 0, 0, 23, 2, 'b');
+        run.due(Run.INDEX, "face", 0, 0, 24, 0, 'b');
         run.due(Run.INDEX, "face", 0, 0, 20, 9, 'x');
         run.due(Run.INDEX, "face", 0, 0, 1, Integer.MAX_VALUE, 'b');
         run.due(Run.INDEX, "face", 0, 0, Integer.MAX_VALUE, 8, 'b');
