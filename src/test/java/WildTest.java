@@ -1,10 +1,12 @@
 import java.lang.reflect.Method;
+import java.util.Arrays;
 import java.util.Map;
 import java.util.TreeMap;
 
 /**
- * Long runs of right and wrong calls, the same ones every time: no call ends in an exception that the
- * document does not tell for it, nor in one of the machine's, and the accounts stay true.
+ * Long runs of right and wrong calls, the same ones every time: each answers what the model answers, no call
+ * ends in an exception that the document does not tell for it, nor in one of the machine's, and the accounts
+ * stay true.
  */
 public final class WildTest {
     private static final int[] EDGES = {
@@ -47,10 +49,11 @@ public final class WildTest {
 
     private static void wildRun(int number) throws NoSuchMethodException {
         Run run = new Run("wild run " + number);
+        Model model = new Model();
         int wildness = number % 2 == 0 ? 8 : 40;
         for (int call = 0; call < 512; call++) {
             String[] words = choose(call).split(" ");
-            wildCall(run, "wild run " + number + ", call " + call, words, wildness);
+            wildCall(run, model, "wild run " + number + ", call " + call, words, wildness);
         }
     }
 
@@ -63,12 +66,16 @@ public final class WildTest {
         return call < 200 && chosen.startsWith("saw") ? "rest" : chosen;
     }
 
-    private static void wildCall(Run run, String name, String[] words, int wildness) throws NoSuchMethodException {
+    private static void wildCall(Run run, Model model, String name, String[] words, int wildness)
+            throws NoSuchMethodException {
         Object[] arguments = new Object[words.length - 1];
         for (int i = 0; i < arguments.length; i++) {
             arguments[i] = argument(words[i + 1], next(wildness) == 0);
         }
         String got = run.answer(words[0], arguments);
+        String due = model.answer(words[0], arguments);
+        String called = words[0] + Arrays.toString(arguments);
+        Run.check(name + ": " + called + " answered " + got + ", the model " + due, got.equals(due));
         Run.check(name + ": " + words[0] + " answered " + got, isTold(Run.methodOf(words[0]), got));
         Run.check(name + ": untrue after " + words[0], run.loft.isTrue());
         if (!got.contains("throws")) {
